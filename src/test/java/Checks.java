@@ -57,12 +57,15 @@ final class Checks {
         }
     }
 
-    /** What a call answers, or the simple name of what it throws. */
+    /** What a call answers, or the simple name of what it throws, told apart if it is not its own. */
     static Object outcome(Call run) {
         try {
             return run.run();
         } catch (RuntimeException thrown) {
-            return thrown.getClass().getSimpleName();
+            String name = thrown.getClass().getSimpleName();
+            StackTraceElement[] trace = thrown.getStackTrace();
+            boolean isOwn = trace.length > 0 && trace[0].getClassName().startsWith("CourseForge");
+            return isOwn ? name : name + " of the machine or the library";
         }
     }
 

@@ -146,6 +146,9 @@ public final class FiguresTest {
         x.appeal(3);
         x.decide(49);
         CHECKS.due("a failure at 49 by points", Checks.written(x, 3), "25:answer 3: 49 failed by 49");
+        x.appeal(0);
+        x.decide(1);
+        CHECKS.due("1 point", Checks.written(x, 0), "23:answer 0: 1 failed by 1");
         for (int i = 4; i <= 10; i++) {
             x.answer(0, 0, 9, 9);
         }
