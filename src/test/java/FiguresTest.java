@@ -1,179 +1,361 @@
 /** Promises 33 to 39: days, figures and the line. */
 public final class FiguresTest {
-    private static final Checks CHECKS = new Checks();
-    private static final int LEAST = Integer.MIN_VALUE;
-    private static final int MOST = Integer.MAX_VALUE;
+    private static final Scripts SCRIPTS = new Scripts();
+
+    /** A student, a lesson with decay 1, an exercise x + 0 with cases of the weights 1, 2 and 4. */
+    private static final String BENCH = """
+            addCohort 0 999
+            addStudent 0
+            addLesson 0 1
+            addExercise 0 1 0 0
+            addCase 0 1 1
+            addCase 0 2 2
+            addCase 0 3 4
+            """;
+
+    /** An answer of the grade 0 with an appeal that is waiting. */
+    private static final String APPEALED = BENCH + """
+            answer 0 0 9 9
+            appeal 0
+            """;
 
     public static void main(String[] args) {
         pass();
+        today();
         meanGrade();
         standingShare();
         isConsistent();
         writeAnswer();
+        writeGrades();
+        writePoints();
         lineAt();
-        CHECKS.finish("FiguresTest");
-    }
-
-    /** A student, a lesson with decay 1, an exercise x + 0 with cases of the weights 1, 2 and 4. */
-    private static CourseForge bench() {
-        CourseForge x = new CourseForge();
-        x.addCohort(0, 999);
-        x.addStudent(0);
-        x.addLesson(0, 1);
-        x.addExercise(0, 1, 0, 0);
-        x.addCase(0, 1, 1);
-        x.addCase(0, 2, 2);
-        x.addCase(0, 3, 4);
-        return x;
+        lineOfLatest();
+        SCRIPTS.finish("FiguresTest");
     }
 
     private static void pass() {
-        CourseForge x = new CourseForge();
-        CHECKS.throwsArgument(x, "pass(0)", () -> x.pass(0));
-        CHECKS.throwsArgument(x, "pass(-1)", () -> x.pass(-1));
-        CHECKS.throwsArgument(x, "pass(100)", () -> x.pass(100));
-        CHECKS.throwsArgument(x, "pass(most)", () -> x.pass(MOST));
-        CHECKS.throwsArgument(x, "pass(least)", () -> x.pass(LEAST));
-        CHECKS.due("today at first", x.today(), 0);
-        CHECKS.due("pass(1)", x.pass(1), 1);
-        for (int i = 1; i <= 10; i++) {
-            CHECKS.due("pass(99)", x.pass(99), 1 + 99 * i);
-            CHECKS.due("today", x.today(), 1 + 99 * i);
-        }
-        CHECKS.throwsState(x, "pass(9) from 991", () -> x.pass(9));
-        CHECKS.throwsState(x, "pass(99) from 991", () -> x.pass(99));
-        CHECKS.throwsArgument(x, "pass(100) from 991", () -> x.pass(100));
-        CHECKS.due("pass(8) from 991", x.pass(8), 999);
-        CHECKS.throwsState(x, "pass(1) from 999", () -> x.pass(1));
-        CHECKS.throwsArgument(x, "pass(0) from 999", () -> x.pass(0));
-        CHECKS.due("today at last", x.today(), 999);
+        SCRIPTS.due(33, "the number of days is 1 to 99", """
+                pass 0 throws IllegalArgumentException
+                pass -1 throws IllegalArgumentException
+                pass least throws IllegalArgumentException
+                pass 1 = 1
+                pass 99 = 100
+                pass 100 throws IllegalArgumentException
+                pass most throws IllegalArgumentException
+                """);
+        String nearTheEnd = "10 x pass 99\n";
+        SCRIPTS.due(33, "the day is 999 at most", nearTheEnd + """
+                pass 10 throws IllegalStateException
+                pass 99 throws IllegalStateException
+                pass 9 = 999
+                pass 1 throws IllegalStateException
+                pass 99 throws IllegalStateException
+                """);
+        SCRIPTS.due(33, "the day before the last one", nearTheEnd + """
+                pass 8 = 998
+                pass 2 throws IllegalStateException
+                pass 1 = 999
+                """);
+        SCRIPTS.due(33, "a number out of range comes ahead of a day greater than 999", nearTheEnd + """
+                pass 9
+                pass 100 throws IllegalArgumentException
+                pass most throws IllegalArgumentException
+                pass 0 throws IllegalArgumentException
+                pass -1 throws IllegalArgumentException
+                """);
+    }
+
+    private static void today() {
+        SCRIPTS.due(34, "0 at first, 999 at last, the same after a refusal", """
+                today = 0
+                pass 100 throws IllegalArgumentException
+                today = 0
+                10 x pass 99
+                today = 990
+                pass 10 throws IllegalStateException
+                today = 990
+                pass 9
+                today = 999
+                pass 1 throws IllegalStateException
+                today = 999
+                """);
     }
 
     private static void meanGrade() {
-        CourseForge x = bench();
-        CHECKS.dueThrow(x, "meanGrade of none", ArithmeticException.class, () -> x.meanGrade());
-        x.answer(0, 0, 0, 1);
-        CHECKS.due("meanGrade of 14", x.meanGrade(), 14.0);
-        x.answer(0, 0, 0, 2);
-        CHECKS.due("meanGrade of 14 and 28", x.meanGrade(), 21.0);
-        x.answer(0, 0, 0, 3);
-        CHECKS.due("meanGrade of 14, 28 and 57", x.meanGrade(), 33.0);
-        x.appeal(0);
-        x.decide(1);
-        CHECKS.due("meanGrade of 15, 28 and 57", x.meanGrade(), 100.0 / 3.0);
-        x.mend(0, 9, 9);
-        CHECKS.due("meanGrade of 0, 0 and 0", x.meanGrade(), 0.0);
+        SCRIPTS.due(35, "there are no answers", BENCH + """
+                meanGrade throws ArithmeticException
+                answer 0 0 10 0 throws IllegalArgumentException
+                meanGrade throws ArithmeticException
+                answer 0 0 9 9
+                meanGrade = 0.0
+                """);
+        SCRIPTS.due(35, "the mean of one, of two and of three answers", BENCH + """
+                answer 0 0 0 1
+                meanGrade = 14.0
+                answer 0 0 0 2
+                meanGrade = 21.0
+                answer 0 0 0 3
+                meanGrade = 33.0
+                answer 0 0 0 2
+                meanGrade = 31.75
+                """);
+        SCRIPTS.due(35, "the quotient is a double, with points", BENCH + """
+                answer 0 0 0 1
+                answer 0 0 0 2
+                answer 0 0 0 3
+                appeal 0
+                decide 1
+                meanGrade = 33.333333333333336
+                mend 0 9 9
+                meanGrade = 0.0
+                """);
+        SCRIPTS.due(35, "100 answers, of the grade 100 and one less", BENCH + """
+                99 x answer 0 0 1 0
+                meanGrade = 100.0
+                answer 0 0 9 9
+                meanGrade = 99.0
+                """);
     }
 
     private static void standingShare() {
-        CourseForge x = bench();
-        x.addStudent(0);
-        x.addStudent(0);
-        x.addCourse(1, 50);
-        CHECKS.dueThrow(x, "standingShare of none", ArithmeticException.class, () -> x.standingShare());
-        x.answer(0, 0, 1, 0);
-        x.answer(1, 0, 0, 3);
-        x.answer(2, 0, 1, 0);
-        for (int student = 0; student < 3; student++) {
-            x.issue(student, 0);
-        }
-        CHECKS.due("standingShare of 3 of 3", x.standingShare(), 1.0f);
-        x.mend(0, 0, 3);
-        CHECKS.due("standingShare of 3 of 3, mended", x.standingShare(), 1.0f);
-        x.mend(0, 2, -3);
-        CHECKS.due("standingShare of 3 of 3 at 57", x.standingShare(), 1.0f);
-        x.mend(0, 0, 3);
-        x.mend(0, 0, 2);
-        CHECKS.due("standingShare of 0 of 3", x.standingShare(), 0.0f);
-        x.answer(1, 0, 0, 2);
-        x.issue(1, 0);
-        CHECKS.due("standingShare of 1 of 4", x.standingShare(), 0.25f);
-        x.answer(0, 0, 1, 9);
-        x.answer(2, 0, 0, 2);
-        x.issue(2, 0);
-        x.answer(0, 0, 0, 2);
-        x.issue(0, 0);
-        CHECKS.due("standingShare of 3 of 6", x.standingShare(), 0.5f);
-        x.mend(0, 0, 1);
-        x.answer(0, 0, 0, 1);
-        x.issue(0, 0);
-        CHECKS.due("standingShare of 1 of 7", x.standingShare(), 1.0f / 7.0f);
+        SCRIPTS.due(36, "there are no certificates", BENCH + """
+                standingShare throws ArithmeticException
+                addCourse 1 50
+                issue 0 0 throws UnsupportedOperationException
+                standingShare throws ArithmeticException
+                answer 0 0 1 0
+                issue 0 0
+                standingShare = 1.0
+                """);
+        SCRIPTS.due(36, "all, some and none of them stand, as a float", BENCH + """
+                2 x addStudent 0
+                addCourse 1 50
+                answer 0 0 0 3
+                answer 1 0 0 3
+                answer 2 0 1 0
+                3 x issue # 0
+                standingShare = 1.0
+                mend 0 9 -6
+                standingShare = 0.0
+                mend 0 1 0
+                issue 2 0
+                standingShare = 0.25
+                issue 0 0
+                standingShare = 0.4
+                issue 1 0
+                standingShare = 0.5
+                mend 0 0 3
+                standingShare = 0.5
+                mend 0 9 9
+                answer 0 0 9 9
+                issue 0 0
+                standingShare = 0.14285715
+                """);
     }
 
     private static void isConsistent() {
-        CourseForge x = bench();
-        x.addStudent(0);
-        x.addLesson(1, 9);
-        CHECKS.due("isConsistent without answers", x.isConsistent(), true);
-        x.answer(0, 0, 0, 3);
-        x.answer(1, 0, 1, 0);
-        CHECKS.due("isConsistent with answers", x.isConsistent(), true);
-        x.appeal(0);
-        x.decide(60);
-        CHECKS.due("isConsistent with points", x.isConsistent(), true);
-        x.pass(7);
-        CHECKS.due("isConsistent by days", x.isConsistent(), true);
-        x.addExercise(0, 2, 2, 1);
-        CHECKS.due("isConsistent with an exercise more", x.isConsistent(), true);
-        x.mend(0, 1, 9);
-        CHECKS.due("isConsistent after a mend", x.isConsistent(), true);
-        CHECKS.due("gradeAnew after a mend", x.gradeAnew(0), x.gradeOf(0));
-        CHECKS.due("masteryAnew after a mend", x.masteryAnew(0, 0), x.mastery(0, 0));
+        SCRIPTS.due(37, "true of a new object", "isConsistent = true");
+        SCRIPTS.due(37, "true with answers, points, days, later exercises and mends", BENCH + """
+                addStudent 0
+                addLesson 1 9
+                isConsistent = true
+                answer 0 0 0 3
+                answer 0 0 1 0
+                isConsistent = true
+                appeal 0
+                isConsistent = true
+                decide 60
+                isConsistent = true
+                pass 7
+                isConsistent = true
+                addExercise 0 2 2 1
+                isConsistent = true
+                mend 0 1 9
+                isConsistent = true
+                pass 99
+                isConsistent = true
+                """);
+        SCRIPTS.due(37, "true of a bench that is full", """
+                4 x addCohort 0 999
+                8 x addStudent 3
+                8 x addLesson 0 #
+                8 x addExercise # 1 0 2
+                4 x addExercise # 1 0 1
+                12 x addCase # 1 3
+                8 x answer # # 1 0
+                8 x answer # # 1 1
+                4 x answer # 11 1 0
+                80 x answer 7 11 1 2
+                pass 1
+                isConsistent = true
+                mend 11 1 1
+                appeal 99
+                decide 100
+                isConsistent = true
+                """);
     }
 
     private static void writeAnswer() {
-        CourseForge x = bench();
-        CHECKS.throwsIndex(x, "writeAnswer(0) of none", () -> x.writeAnswer(0));
-        x.answer(0, 0, 0, 3);
-        x.answer(0, 0, 0, 2);
-        x.answer(0, 0, 1, 0);
-        x.answer(0, 0, 0, 9);
-        CHECKS.due("a pass", Checks.written(x, 0), "19:answer 0: 57 passed");
-        CHECKS.due("a failure", Checks.written(x, 1), "19:answer 1: 28 failed");
-        CHECKS.due("a full grade", Checks.written(x, 2), "20:answer 2: 100 passed");
-        CHECKS.due("a grade 0, shorter than the line before", Checks.written(x, 3), "18:answer 3: 0 failed");
-        x.appeal(1);
-        x.appeal(0);
-        x.appeal(3);
-        CHECKS.due("an appeal that waits", Checks.written(x, 1), "19:answer 1: 28 failed");
-        x.decide(22);
-        CHECKS.due("a pass at 50 by points", Checks.written(x, 1), "25:answer 1: 50 passed by 22");
-        x.decide(100);
-        CHECKS.due("more points than count", Checks.written(x, 0), "27:answer 0: 100 passed by 100");
-        x.decide(0);
-        CHECKS.due("0 points", Checks.written(x, 3), "18:answer 3: 0 failed");
-        x.mend(0, 0, 2);
-        x.appeal(3);
-        x.decide(49);
-        CHECKS.due("a failure at 49 by points", Checks.written(x, 3), "25:answer 3: 49 failed by 49");
-        x.appeal(0);
-        x.decide(1);
-        CHECKS.due("1 point", Checks.written(x, 0), "23:answer 0: 1 failed by 1");
-        for (int i = 4; i <= 10; i++) {
-            x.answer(0, 0, 9, 9);
-        }
-        CHECKS.due("a number of two digits", Checks.written(x, 10), "19:answer 10: 0 failed");
-        CHECKS.throwsIndex(x, "writeAnswer(-1)", () -> x.writeAnswer(-1));
-        CHECKS.throwsIndex(x, "writeAnswer(11)", () -> x.writeAnswer(11));
-        x.mend(0, 9, 9);
-        CHECKS.due("the line stays until the next", Checks.line(x), "answer 10: 0 failed");
+        SCRIPTS.due(38, "there is no such answer", BENCH + """
+                writeAnswer 0 throws IndexOutOfBoundsException
+                answer 0 0 1 0
+                answer 0 0 9 9
+                writeAnswer -1 throws IndexOutOfBoundsException
+                writeAnswer least throws IndexOutOfBoundsException
+                writeAnswer 0 = 20
+                writeAnswer 2 throws IndexOutOfBoundsException
+                writeAnswer most throws IndexOutOfBoundsException
+                line = answer 0: 100 passed
+                writeAnswer 1 = 18
+                line = answer 1: 0 failed
+                """);
+        SCRIPTS.due(38, "numbers of one and of two digits, up to the longest line", BENCH + """
+                100 x answer 0 0 9 9
+                writeAnswer 9 = 18
+                line = answer 9: 0 failed
+                writeAnswer 10 = 19
+                line = answer 10: 0 failed
+                appeal 99
+                decide 100
+                writeAnswer 99 = 28
+                line = answer 99: 100 passed by 100
+                writeAnswer 100 throws IndexOutOfBoundsException
+                """);
+        SCRIPTS.due(38, "the example of the document", """
+                addCohort 0 9
+                addStudent 0
+                addLesson 0 0
+                addExercise 0 1 0 0
+                2 x addCase 0 1 9
+                addCase 0 5 9
+                addCase 0 5 8
+                4 x answer 0 0 0 1
+                gradeOf 3 = 51
+                appeal 3
+                decide 20
+                writeAnswer 3 = 25
+                line = answer 3: 71 passed by 20
+                """);
+    }
+
+    private static void writeGrades() {
+        SCRIPTS.due(38, "\" passed\" at a grade of 50, \" failed\" at one of 49", APPEALED + """
+                decide 49
+                writeAnswer 0 = 25
+                line = answer 0: 49 failed by 49
+                mend 0 2 0
+                appeal 0
+                decide 50
+                writeAnswer 0 = 25
+                line = answer 0: 50 passed by 50
+                """);
+        SCRIPTS.due(38, "\" passed\" and \" failed\" without points", """
+                addCohort 0 9
+                addStudent 0
+                addLesson 0 0
+                addExercise 0 1 0 0
+                2 x addCase 0 1 9
+                addCase 0 1 7
+                2 x addCase 0 5 9
+                addCase 0 5 8
+                addExercise 0 1 0 0
+                2 x addCase 1 # 1
+                answer 0 0 0 1
+                writeAnswer 0 = 19
+                line = answer 0: 49 failed
+                answer 0 1 0 0
+                writeAnswer 1 = 19
+                line = answer 1: 50 passed
+                """);
+        SCRIPTS.due(38, "grades of one, of two and of three digits", BENCH + """
+                answer 0 0 9 9
+                answer 0 0 0 1
+                answer 0 0 1 0
+                writeAnswer 0 = 18
+                line = answer 0: 0 failed
+                writeAnswer 1 = 19
+                line = answer 1: 14 failed
+                writeAnswer 2 = 20
+                line = answer 2: 100 passed
+                """);
+    }
+
+    private static void writePoints() {
+        SCRIPTS.due(38, "no points without a decision, and none of 0", APPEALED + """
+                writeAnswer 0 = 18
+                line = answer 0: 0 failed
+                decide 0
+                writeAnswer 0 = 18
+                line = answer 0: 0 failed
+                """);
+        SCRIPTS.due(38, "more than 0 points", APPEALED + """
+                decide 1
+                writeAnswer 0 = 23
+                line = answer 0: 1 failed by 1
+                """);
+        SCRIPTS.due(38, "the most points", APPEALED + """
+                decide 100
+                writeAnswer 0 = 27
+                line = answer 0: 100 passed by 100
+                """);
+        SCRIPTS.due(38, "all points that were granted, though the grade is at most 100", BENCH + """
+                answer 0 0 1 0
+                appeal 0
+                decide 7
+                writeAnswer 0 = 25
+                line = answer 0: 100 passed by 7
+                """);
+        SCRIPTS.due(38, "no points after a mend", APPEALED + """
+                decide 60
+                mend 0 2 0
+                writeAnswer 0 = 18
+                line = answer 0: 0 failed
+                """);
     }
 
     private static void lineAt() {
-        CourseForge x = bench();
-        CHECKS.throwsIndex(x, "lineAt(0) of an empty line", () -> x.lineAt(0));
-        x.answer(0, 0, 0, 3);
-        x.answer(0, 0, 9, 9);
-        x.writeAnswer(0);
-        CHECKS.due("lineAt(0)", x.lineAt(0), 'a');
-        CHECKS.due("lineAt(6)", x.lineAt(6), ' ');
-        CHECKS.due("lineAt(18)", x.lineAt(18), 'd');
-        CHECKS.throwsIndex(x, "lineAt(19)", () -> x.lineAt(19));
-        CHECKS.throwsIndex(x, "lineAt(-1)", () -> x.lineAt(-1));
-        CHECKS.throwsIndex(x, "lineAt(most)", () -> x.lineAt(MOST));
-        CHECKS.throwsIndex(x, "lineAt(least)", () -> x.lineAt(LEAST));
-        x.writeAnswer(1);
-        CHECKS.throwsIndex(x, "lineAt(18) of a shorter line", () -> x.lineAt(18));
-        CHECKS.due("lineAt(17) of a shorter line", x.lineAt(17), 'd');
+        SCRIPTS.due(39, "the line is empty at first", BENCH + """
+                lineAt 0 throws IndexOutOfBoundsException
+                answer 0 0 1 0
+                lineAt 0 throws IndexOutOfBoundsException
+                writeAnswer 1 throws IndexOutOfBoundsException
+                lineAt 0 throws IndexOutOfBoundsException
+                lineAt -1 throws IndexOutOfBoundsException
+                """);
+        SCRIPTS.due(39, "there is no such character", BENCH + """
+                answer 0 0 0 3
+                writeAnswer 0 = 19
+                lineAt -1 throws IndexOutOfBoundsException
+                lineAt least throws IndexOutOfBoundsException
+                lineAt 0 = a
+                lineAt 5 = r
+                lineAt 7 = 0
+                lineAt 8 = :
+                lineAt 18 = d
+                lineAt 19 throws IndexOutOfBoundsException
+                lineAt most throws IndexOutOfBoundsException
+                """);
+    }
+
+    private static void lineOfLatest() {
+        SCRIPTS.due(39, "a shorter line in place of a longer one", BENCH + """
+                answer 0 0 1 0
+                answer 0 0 9 9
+                writeAnswer 0 = 20
+                lineAt 19 = d
+                writeAnswer 1 = 18
+                lineAt 17 = d
+                lineAt 18 throws IndexOutOfBoundsException
+                lineAt 19 throws IndexOutOfBoundsException
+                """);
+        SCRIPTS.due(39, "the line stays until an answer is written, whatever becomes of the answer", BENCH + """
+                answer 0 0 1 0
+                writeAnswer 0
+                mend 0 9 9
+                pass 1
+                answer 0 0 9 9
+                writeAnswer 2 throws IndexOutOfBoundsException
+                line = answer 0: 100 passed
+                """);
     }
 }

@@ -1,229 +1,498 @@
 /** Promises 1 to 8: a new object, cohorts, students, lessons, exercises and cases. */
 public final class StructureTest {
-    private static final Checks CHECKS = new Checks();
-    private static final int LEAST = Integer.MIN_VALUE;
-    private static final int MOST = Integer.MAX_VALUE;
+    private static final Scripts SCRIPTS = new Scripts();
+
+    /** A student of the days 0 to 9, a lesson without decay and an exercise x + 0 without cases. */
+    private static final String BENCH = """
+            addCohort 0 9
+            addStudent 0
+            addLesson 0 0
+            addExercise 0 1 0 0
+            """;
 
     public static void main(String[] args) {
         newObject();
+        lastCall();
         addCohort();
         addStudent();
         addLesson();
+        addLessonRefused();
         addExercise();
+        addExerciseRefused();
         addCase();
-        addCaseAfterAnswers();
+        addCaseRefused();
         versionOf();
         openLessons();
-        CHECKS.finish("StructureTest");
+        SCRIPTS.finish("StructureTest");
     }
 
     private static void newObject() {
-        CourseForge x = new CourseForge();
-        CHECKS.due("today of a new object", x.today(), 0);
-        CHECKS.due("answerCount of a new object", x.answerCount(), 0);
-        CHECKS.due("appealCount of a new object", x.appealCount(), 0);
-        CHECKS.due("harmedCount of a new object", x.harmedCount(), 0);
-        CHECKS.due("revoked of a new object", x.revoked(), 0);
-        CHECKS.due("isConsistent of a new object", x.isConsistent(), true);
-        CHECKS.throwsIndex(x, "addStudent(0) to a new object", () -> x.addStudent(0));
-        CHECKS.throwsIndex(x, "openLessons(0) of a new object", () -> x.openLessons(0));
-        CHECKS.throwsIndex(x, "versionOf(0) of a new object", () -> x.versionOf(0));
-        CHECKS.throwsIndex(x, "addCase(0, 0, 1) to a new object", () -> x.addCase(0, 0, 1));
-        CHECKS.throwsIndex(x, "gradeOf(0) of a new object", () -> x.gradeOf(0));
-        CHECKS.throwsIndex(x, "doesStand(0) of a new object", () -> x.doesStand(0));
-        CHECKS.throwsArgument(x, "addCourse(1, 1) to a new object", () -> x.addCourse(1, 1));
-        CHECKS.due("a second object", new CourseForge().addCohort(0, 0), 0);
-        CHECKS.due("apart from the first", x.addCohort(1, 1), 0);
+        SCRIPTS.due(1, "a new object has no cohorts", """
+                addStudent 0 throws IndexOutOfBoundsException
+                addCohort 1 1 = 0
+                addStudent 0 = 0
+                """);
+        SCRIPTS.due(1, "a new object has no students", """
+                openLessons 0 throws IndexOutOfBoundsException
+                addCohort 0 0
+                addLesson 0 0
+                addExercise 0 0 0 0
+                addCourse 1 1
+                reason 0 0 throws IndexOutOfBoundsException
+                mastery 0 0 throws IndexOutOfBoundsException
+                issue 0 0 throws IndexOutOfBoundsException
+                addStudent 0 = 0
+                """);
+        SCRIPTS.due(1, "a new object has no lessons", """
+                versionOf 0 throws IndexOutOfBoundsException
+                addExercise 0 0 0 0 throws IndexOutOfBoundsException
+                addLesson 1 0 throws IllegalArgumentException
+                addCourse 1 1 throws IllegalArgumentException
+                addLesson 0 0 = 0
+                """);
+        SCRIPTS.due(1, "a new object has no exercises", """
+                addCase 0 0 1 throws IndexOutOfBoundsException
+                mend 0 0 0 throws IndexOutOfBoundsException
+                addLesson 0 0
+                addExercise 0 0 0 0 = 0
+                """);
+        SCRIPTS.due(1, "a new object is on the day 0", "today = 0");
+        SCRIPTS.due(1, "a new object has no answers, appeals, courses and certificates", """
+                answerCount = 0
+                gradeOf 0 throws IndexOutOfBoundsException
+                appealCount = 0
+                harmedCount = 0
+                doesStand 0 throws IndexOutOfBoundsException
+                revoked = 0
+                isConsistent = true
+                addLesson 0 0
+                addCourse 1 1 = 0
+                """);
+    }
+
+    private static void lastCall() {
+        SCRIPTS.due(1, "the 512th call of an object is answered as the calls before it are", BENCH + """
+                addCase 0 1 1
+                answer 0 0 0 6
+                99 x mend 0 2 #
+                99 x mend 0 3 #
+                99 x mend 0 4 #
+                99 x mend 0 5 #
+                99 x mend 0 6 #
+                versionOf 0 = 495
+                answerCount = 1
+                gradeOf 0 = 0
+                today = 0
+                harmedCount = 1
+                addCohort 0 0 = 1
+                addStudent 1 = 1
+                addLesson 1 9 = 1
+                addExercise 1 0 0 0 = 1
+                addCourse 3 1 = 0
+                calls = 511
+                mend 0 0 6 = 1
+                """);
     }
 
     private static void addCohort() {
-        CourseForge x = new CourseForge();
-        CHECKS.throwsArgument(x, "addCohort(-1, 0)", () -> x.addCohort(-1, 0));
-        CHECKS.throwsArgument(x, "addCohort(0, 1000)", () -> x.addCohort(0, 1000));
-        CHECKS.throwsArgument(x, "addCohort(1000, 1000)", () -> x.addCohort(1000, 1000));
-        CHECKS.throwsArgument(x, "addCohort(7, 6)", () -> x.addCohort(7, 6));
-        CHECKS.throwsArgument(x, "addCohort(least, most)", () -> x.addCohort(LEAST, MOST));
-        CHECKS.due("addCohort(0, 999)", x.addCohort(0, 999), 0);
-        CHECKS.due("addCohort(999, 999)", x.addCohort(999, 999), 1);
-        CHECKS.due("addCohort(0, 0)", x.addCohort(0, 0), 2);
-        CHECKS.due("addCohort(3, 4)", x.addCohort(3, 4), 3);
-        CHECKS.throwsState(x, "a fifth cohort", () -> x.addCohort(0, 1));
-        CHECKS.throwsArgument(x, "a fifth cohort out of range", () -> x.addCohort(2, 1));
-        x.addLesson(0, 0);
-        x.addExercise(0, 1, 0, 0);
-        x.addCase(0, 1, 1);
-        for (int cohort = 0; cohort < 4; cohort++) {
-            x.addStudent(cohort);
-        }
-        CHECKS.due("day 0 of the days 0 to 999", x.reason(0, 0), '-');
-        CHECKS.due("day 0 of the days 999 to 999", x.reason(1, 0), 'd');
-        CHECKS.due("day 0 of the days 0 to 0", x.reason(2, 0), '-');
-        CHECKS.due("day 0 of the days 3 to 4", x.reason(3, 0), 'd');
-        x.pass(2);
-        CHECKS.due("day 2 of the days 3 to 4", x.reason(3, 0), 'd');
-        x.pass(1);
-        CHECKS.due("day 3 of the days 3 to 4", x.reason(3, 0), '-');
-        CHECKS.due("day 3 of the days 0 to 0", x.reason(2, 0), 'd');
-        x.pass(1);
-        CHECKS.due("day 4 of the days 3 to 4", x.reason(3, 0), '-');
-        x.pass(1);
-        CHECKS.due("day 5 of the days 3 to 4", x.reason(3, 0), 'd');
+        SCRIPTS.due(2, "the first day is 0 to 999", """
+                addCohort -1 0 throws IllegalArgumentException
+                addCohort -1 -1 throws IllegalArgumentException
+                addCohort least 0 throws IllegalArgumentException
+                addCohort least most throws IllegalArgumentException
+                addCohort 0 0 = 0
+                addCohort 1 999 = 1
+                addCohort 999 999 = 2
+                addCohort 1000 1000 throws IllegalArgumentException
+                addCohort 1000 999 throws IllegalArgumentException
+                addCohort most most throws IllegalArgumentException
+                """);
+        SCRIPTS.due(2, "the last day is the first one to 999", """
+                addCohort 7 6 throws IllegalArgumentException
+                addCohort 1 0 throws IllegalArgumentException
+                addCohort 0 -1 throws IllegalArgumentException
+                addCohort 999 998 throws IllegalArgumentException
+                addCohort 0 1000 throws IllegalArgumentException
+                addCohort 0 most throws IllegalArgumentException
+                addCohort 0 least throws IllegalArgumentException
+                addCohort 7 7 = 0
+                addCohort 7 8 = 1
+                addCohort 0 999 = 2
+                addCohort 998 999 = 3
+                """);
+        SCRIPTS.due(2, "at most 4 cohorts are numbered from 0", """
+                4 x addCohort # 9 = #
+                addCohort 0 9 throws IllegalStateException
+                addCohort 999 999 throws IllegalStateException
+                """);
+        SCRIPTS.due(2, "a day out of range comes ahead of 4 cohorts", """
+                4 x addCohort 0 9
+                addCohort -1 9 throws IllegalArgumentException
+                addCohort 9 8 throws IllegalArgumentException
+                addCohort 9 1000 throws IllegalArgumentException
+                """);
     }
 
     private static void addStudent() {
-        CourseForge x = new CourseForge();
-        CHECKS.throwsIndex(x, "addStudent(0) without cohorts", () -> x.addStudent(0));
-        x.addCohort(0, 9);
-        x.addCohort(5, 9);
-        CHECKS.throwsIndex(x, "addStudent(-1)", () -> x.addStudent(-1));
-        CHECKS.throwsIndex(x, "addStudent(2)", () -> x.addStudent(2));
-        CHECKS.throwsIndex(x, "addStudent(least)", () -> x.addStudent(LEAST));
-        for (int student = 0; student < 8; student++) {
-            CHECKS.due("addStudent, the number " + student, x.addStudent(student % 2), student);
-        }
-        CHECKS.throwsState(x, "a ninth student", () -> x.addStudent(1));
-        CHECKS.throwsIndex(x, "a ninth student of no cohort", () -> x.addStudent(2));
-        x.addLesson(0, 0);
-        x.addExercise(0, 1, 0, 0);
-        x.addCase(0, 1, 1);
-        CHECKS.due("a student of the cohort 0", x.reason(6, 0), '-');
-        CHECKS.due("a student of the cohort 1", x.reason(7, 0), 'd');
+        SCRIPTS.due(3, "there is no such cohort", """
+                addStudent 0 throws IndexOutOfBoundsException
+                addCohort 0 9
+                addStudent 1 throws IndexOutOfBoundsException
+                addCohort 0 9
+                addStudent -1 throws IndexOutOfBoundsException
+                addStudent least throws IndexOutOfBoundsException
+                addStudent 0 = 0
+                addStudent 1 = 1
+                addStudent 2 throws IndexOutOfBoundsException
+                addStudent most throws IndexOutOfBoundsException
+                """);
+        SCRIPTS.due(3, "4 cohorts have students", """
+                4 x addCohort # #
+                4 x addStudent # = #
+                addStudent 4 throws IndexOutOfBoundsException
+                """);
+        SCRIPTS.due(3, "each student belongs to a cohort", """
+                addLesson 0 0
+                addExercise 0 1 0 0
+                addCase 0 1 1
+                addCohort 0 9
+                addCohort 5 9
+                addStudent 1
+                addStudent 0
+                reason 0 0 = d
+                reason 1 0 = -
+                """);
+        SCRIPTS.due(3, "at most 8 students are numbered from 0", """
+                addCohort 0 9
+                addCohort 5 9
+                8 x addStudent 0 = #
+                addStudent 0 throws IllegalStateException
+                addStudent 1 throws IllegalStateException
+                openLessons 7 = 0
+                openLessons 8 throws IndexOutOfBoundsException
+                """);
+        SCRIPTS.due(3, "no such cohort comes ahead of 8 students", """
+                addCohort 0 9
+                8 x addStudent 0
+                addStudent 1 throws IndexOutOfBoundsException
+                addStudent -1 throws IndexOutOfBoundsException
+                """);
     }
 
     private static void addLesson() {
-        CourseForge x = new CourseForge();
-        CHECKS.throwsArgument(x, "addLesson(1, 0), which needs itself", () -> x.addLesson(1, 0));
-        CHECKS.throwsArgument(x, "addLesson(-1, 0)", () -> x.addLesson(-1, 0));
-        CHECKS.throwsArgument(x, "addLesson(least, 0)", () -> x.addLesson(LEAST, 0));
-        CHECKS.throwsArgument(x, "addLesson(0, -1)", () -> x.addLesson(0, -1));
-        CHECKS.throwsArgument(x, "addLesson(0, 10)", () -> x.addLesson(0, 10));
-        CHECKS.due("addLesson(0, 9)", x.addLesson(0, 9), 0);
-        CHECKS.due("addLesson(1, 0)", x.addLesson(1, 0), 1);
-        CHECKS.throwsArgument(x, "addLesson(4, 0), which needs itself", () -> x.addLesson(4, 0));
-        CHECKS.due("addLesson(3, 0)", x.addLesson(3, 0), 2);
-        CHECKS.due("addLesson(5, 0)", x.addLesson(5, 0), 3);
-        for (int lesson = 4; lesson < 8; lesson++) {
-            CHECKS.due("addLesson, the number " + lesson, x.addLesson((1 << lesson) - 1, 1), lesson);
-        }
-        CHECKS.throwsState(x, "a ninth lesson", () -> x.addLesson(255, 9));
-        CHECKS.throwsArgument(x, "a ninth lesson that needs itself", () -> x.addLesson(256, 9));
-        CHECKS.throwsArgument(x, "a ninth lesson that needs number 31", () -> x.addLesson(LEAST, 9));
-        CHECKS.throwsArgument(x, "a ninth lesson with decay 10", () -> x.addLesson(0, 10));
+        SCRIPTS.due(4, "a lesson needs lessons that were added before it", """
+                addLesson 0 0 = 0
+                addLesson 1 0 = 1
+                addLesson 3 0 = 2
+                addLesson 5 0 = 3
+                addLesson 15 0 = 4
+                addLesson 16 0 = 5
+                addLesson 63 0 = 6
+                addLesson 127 0 = 7
+                """);
+        SCRIPTS.due(4, "a lesson needs no lessons", "8 x addLesson 0 0 = #");
+        SCRIPTS.due(4, "a lesson does not need itself or a later one", """
+                addLesson 1 0 throws IllegalArgumentException
+                addLesson 0 0
+                addLesson 2 0 throws IllegalArgumentException
+                addLesson 3 0 throws IllegalArgumentException
+                addLesson 4 0 throws IllegalArgumentException
+                addLesson 1 0
+                addLesson 4 0 throws IllegalArgumentException
+                addLesson 7 0 throws IllegalArgumentException
+                5 x addLesson 3 0
+                addLesson 128 0 throws IllegalArgumentException
+                addLesson 255 0 throws IllegalArgumentException
+                """);
+        SCRIPTS.due(4, "a sum is below 0 or above all lessons", """
+                addLesson 0 0
+                addLesson -1 0 throws IllegalArgumentException
+                addLesson least 0 throws IllegalArgumentException
+                addLesson most 0 throws IllegalArgumentException
+                addLesson -2147483647 0 throws IllegalArgumentException
+                addLesson 65536 0 throws IllegalArgumentException
+                addLesson 256 0 throws IllegalArgumentException
+                """);
+        SCRIPTS.due(4, "the decay is 0 to 9", """
+                addLesson 0 -1 throws IllegalArgumentException
+                addLesson 0 least throws IllegalArgumentException
+                addLesson 0 0 = 0
+                addLesson 0 1 = 1
+                addLesson 0 9 = 2
+                addLesson 0 10 throws IllegalArgumentException
+                addLesson 0 most throws IllegalArgumentException
+                """);
+    }
+
+    private static void addLessonRefused() {
+        SCRIPTS.due(4, "at most 8 lessons are numbered from 0", """
+                8 x addLesson 0 9 = #
+                addLesson 0 0 throws IllegalStateException
+                addLesson 128 0 throws IllegalStateException
+                addLesson 255 9 throws IllegalStateException
+                versionOf 7 = 0
+                versionOf 8 throws IndexOutOfBoundsException
+                """);
+        SCRIPTS.due(4, "an argument out of range comes ahead of 8 lessons", """
+                8 x addLesson 0 9
+                addLesson 256 9 throws IllegalArgumentException
+                addLesson least 9 throws IllegalArgumentException
+                addLesson 0 10 throws IllegalArgumentException
+                addLesson 0 -1 throws IllegalArgumentException
+                """);
     }
 
     private static void addExercise() {
-        CourseForge x = new CourseForge();
-        CHECKS.throwsIndex(x, "addExercise without lessons", () -> x.addExercise(0, 0, 0, 0));
-        x.addLesson(0, 0);
-        CHECKS.throwsIndex(x, "addExercise(-1, ..)", () -> x.addExercise(-1, 0, 0, 0));
-        CHECKS.throwsIndex(x, "addExercise(1, 10, 100, 3)", () -> x.addExercise(1, 10, 100, 3));
-        CHECKS.throwsIndex(x, "addExercise(most, ..)", () -> x.addExercise(MOST, 0, 0, 0));
-        CHECKS.throwsArgument(x, "addExercise, factor -10", () -> x.addExercise(0, -10, 0, 0));
-        CHECKS.throwsArgument(x, "addExercise, factor 10", () -> x.addExercise(0, 10, 0, 0));
-        CHECKS.throwsArgument(x, "addExercise, factor least", () -> x.addExercise(0, LEAST, 0, 0));
-        CHECKS.throwsArgument(x, "addExercise, addend -100", () -> x.addExercise(0, 0, -100, 0));
-        CHECKS.throwsArgument(x, "addExercise, addend 100", () -> x.addExercise(0, 0, 100, 0));
-        CHECKS.throwsArgument(x, "addExercise, grader -1", () -> x.addExercise(0, 0, 0, -1));
-        CHECKS.throwsArgument(x, "addExercise, grader 3", () -> x.addExercise(0, 0, 0, 3));
-        CHECKS.due("addExercise(0, -9, -99, 0)", x.addExercise(0, -9, -99, 0), 0);
-        CHECKS.due("addExercise(0, 9, 99, 2)", x.addExercise(0, 9, 99, 2), 1);
-        for (int exercise = 2; exercise < 12; exercise++) {
-            CHECKS.due("addExercise, the number " + exercise, x.addExercise(0, 0, 0, 1), exercise);
-        }
-        CHECKS.throwsState(x, "a thirteenth exercise", () -> x.addExercise(0, 0, 0, 0));
-        CHECKS.throwsIndex(x, "a thirteenth one to no lesson", () -> x.addExercise(1, 0, 0, 0));
-        CHECKS.throwsArgument(x, "a thirteenth one, grader 3", () -> x.addExercise(0, 0, 0, 3));
-        x.addCohort(0, 0);
-        x.addStudent(0);
-        CHECKS.due("an exercise has no cases at first", x.reason(0, 11), 'c');
-        CHECKS.due("an exercise belongs to its lesson", x.mastery(0, 0), 0);
+        SCRIPTS.due(5, "there is no such lesson", """
+                addExercise 0 0 0 0 throws IndexOutOfBoundsException
+                2 x addLesson 0 0
+                addExercise -1 0 0 0 throws IndexOutOfBoundsException
+                addExercise least 0 0 0 throws IndexOutOfBoundsException
+                addExercise 0 0 0 0 = 0
+                addExercise 1 0 0 0 = 1
+                addExercise 2 0 0 0 throws IndexOutOfBoundsException
+                addExercise most 0 0 0 throws IndexOutOfBoundsException
+                """);
+        SCRIPTS.due(5, "an exercise is added to its lesson, without cases", """
+                addCohort 0 9
+                addStudent 0
+                2 x addLesson 0 0
+                addExercise 1 0 0 0
+                mastery 0 0 = 100
+                mastery 0 1 = 0
+                reason 0 0 = c
+                """);
+        SCRIPTS.due(5, "the factor is -9 to 9", """
+                addLesson 0 0
+                addExercise 0 -10 0 0 throws IllegalArgumentException
+                addExercise 0 least 0 0 throws IllegalArgumentException
+                addExercise 0 -9 0 0 = 0
+                addExercise 0 9 0 0 = 1
+                addExercise 0 10 0 0 throws IllegalArgumentException
+                addExercise 0 most 0 0 throws IllegalArgumentException
+                """);
+        SCRIPTS.due(5, "the addend is -99 to 99", """
+                addLesson 0 0
+                addExercise 0 0 -100 0 throws IllegalArgumentException
+                addExercise 0 0 least 0 throws IllegalArgumentException
+                addExercise 0 0 -99 0 = 0
+                addExercise 0 0 99 0 = 1
+                addExercise 0 0 100 0 throws IllegalArgumentException
+                addExercise 0 0 most 0 throws IllegalArgumentException
+                """);
+        SCRIPTS.due(5, "the grader is 0 to 2", """
+                addLesson 0 0
+                addExercise 0 0 0 -1 throws IllegalArgumentException
+                addExercise 0 0 0 least throws IllegalArgumentException
+                3 x addExercise 0 0 0 # = #
+                addExercise 0 0 0 3 throws IllegalArgumentException
+                addExercise 0 0 0 most throws IllegalArgumentException
+                """);
+    }
+
+    private static void addExerciseRefused() {
+        SCRIPTS.due(5, "at most 12 exercises are numbered from 0", """
+                2 x addLesson 0 0
+                12 x addExercise 1 9 99 2 = #
+                addExercise 0 0 0 0 throws IllegalStateException
+                addExercise 1 -9 -99 1 throws IllegalStateException
+                addCase 11 0 1 = 1
+                addCase 12 0 1 throws IndexOutOfBoundsException
+                """);
+        SCRIPTS.due(5, "no such lesson comes ahead of an argument out of range and of 12 exercises", """
+                addLesson 0 0
+                addExercise 1 10 0 0 throws IndexOutOfBoundsException
+                addExercise 1 0 100 0 throws IndexOutOfBoundsException
+                addExercise -1 0 0 3 throws IndexOutOfBoundsException
+                12 x addExercise 0 0 0 0
+                addExercise 1 0 0 0 throws IndexOutOfBoundsException
+                addExercise -1 10 100 3 throws IndexOutOfBoundsException
+                """);
+        SCRIPTS.due(5, "an argument out of range comes ahead of 12 exercises", """
+                addLesson 0 0
+                12 x addExercise 0 0 0 0
+                addExercise 0 -10 0 0 throws IllegalArgumentException
+                addExercise 0 0 100 0 throws IllegalArgumentException
+                addExercise 0 0 0 3 throws IllegalArgumentException
+                """);
     }
 
     private static void addCase() {
-        CourseForge x = new CourseForge();
-        x.addLesson(0, 0);
-        x.addExercise(0, 1, 0, 0);
-        x.addExercise(0, 1, 0, 0);
-        CHECKS.throwsIndex(x, "addCase(-1, ..)", () -> x.addCase(-1, 0, 1));
-        CHECKS.throwsIndex(x, "addCase(2, 100, 0)", () -> x.addCase(2, 100, 0));
-        CHECKS.throwsArgument(x, "addCase, input -1", () -> x.addCase(0, -1, 1));
-        CHECKS.throwsArgument(x, "addCase, input 100", () -> x.addCase(0, 100, 1));
-        CHECKS.throwsArgument(x, "addCase, weight 0", () -> x.addCase(0, 0, 0));
-        CHECKS.throwsArgument(x, "addCase, weight 10", () -> x.addCase(0, 0, 10));
-        CHECKS.throwsArgument(x, "addCase, weight least", () -> x.addCase(0, 0, LEAST));
-        CHECKS.due("addCase(0, 0, 1)", x.addCase(0, 0, 1), 1);
-        CHECKS.due("addCase(0, 99, 9)", x.addCase(0, 99, 9), 2);
-        CHECKS.due("addCase(1, 5, 5)", x.addCase(1, 5, 5), 1);
-        for (int count = 3; count <= 6; count++) {
-            CHECKS.due("addCase, the count " + count, x.addCase(0, 0, 1), count);
-        }
-        CHECKS.throwsState(x, "a seventh case", () -> x.addCase(0, 0, 1));
-        CHECKS.throwsIndex(x, "a seventh case of no exercise", () -> x.addCase(2, 0, 1));
-        CHECKS.throwsArgument(x, "a seventh case, weight 0", () -> x.addCase(0, 0, 0));
-        CHECKS.due("the cases of another exercise", x.addCase(1, 5, 5), 2);
+        SCRIPTS.due(6, "there is no such exercise", """
+                addCase 0 0 1 throws IndexOutOfBoundsException
+                addLesson 0 0
+                2 x addExercise 0 1 0 0
+                addCase -1 0 1 throws IndexOutOfBoundsException
+                addCase least 0 1 throws IndexOutOfBoundsException
+                addCase 0 0 1 = 1
+                addCase 1 0 1 = 1
+                addCase 2 0 1 throws IndexOutOfBoundsException
+                addCase most 0 1 throws IndexOutOfBoundsException
+                """);
+        SCRIPTS.due(6, "the input is 0 to 99", BENCH + """
+                addCase 0 -1 1 throws IllegalArgumentException
+                addCase 0 least 1 throws IllegalArgumentException
+                addCase 0 0 1 = 1
+                addCase 0 99 1 = 2
+                addCase 0 100 1 throws IllegalArgumentException
+                addCase 0 most 1 throws IllegalArgumentException
+                """);
+        SCRIPTS.due(6, "the weight is 1 to 9", BENCH + """
+                addCase 0 0 0 throws IllegalArgumentException
+                addCase 0 0 -1 throws IllegalArgumentException
+                addCase 0 0 least throws IllegalArgumentException
+                addCase 0 0 1 = 1
+                addCase 0 0 9 = 2
+                addCase 0 0 10 throws IllegalArgumentException
+                addCase 0 0 most throws IllegalArgumentException
+                """);
+        SCRIPTS.due(6, "it returns the number of cases of the exercise", BENCH + """
+                addExercise 0 1 0 0
+                addCase 0 5 5 = 1
+                addCase 0 5 5 = 2
+                addCase 1 5 5 = 1
+                addCase 0 5 5 = 3
+                addCase 1 5 5 = 2
+                """);
     }
 
-    private static void addCaseAfterAnswers() {
-        CourseForge x = new CourseForge();
-        x.addCohort(0, 0);
-        x.addStudent(0);
-        x.addLesson(0, 0);
-        x.addExercise(0, 1, 0, 0);
-        x.addExercise(0, 1, 0, 0);
-        x.addCase(0, 1, 3);
-        x.addCase(1, 1, 3);
-        x.answer(0, 0, 1, 0);
-        CHECKS.throwsState(x, "addCase with an answer", () -> x.addCase(0, 2, 1));
-        CHECKS.throwsArgument(x, "addCase with an answer, input 100", () -> x.addCase(0, 100, 1));
-        x.mend(0, 2, 0);
-        CHECKS.throwsState(x, "addCase with an answer, mended", () -> x.addCase(0, 2, 1));
-        CHECKS.due("addCase without an answer", x.addCase(1, 2, 1), 2);
+    private static void addCaseRefused() {
+        SCRIPTS.due(6, "there are 6 cases", BENCH + """
+                addExercise 0 1 0 0
+                5 x addCase 0 # 9
+                addCase 0 5 9 = 6
+                addCase 0 0 1 throws IllegalStateException
+                addCase 0 99 9 throws IllegalStateException
+                addCase 1 0 1 = 1
+                """);
+        SCRIPTS.due(6, "there is an answer to the exercise", BENCH + """
+                addExercise 0 1 0 0
+                addStudent 0
+                addCase 0 1 1
+                addCase 1 1 1
+                answer 1 0 0 99
+                addCase 0 1 1 throws IllegalStateException
+                addCase 1 1 1 = 2
+                mend 0 2 2
+                addCase 0 1 1 throws IllegalStateException
+                pass 10
+                addCase 0 1 1 throws IllegalStateException
+                """);
+        SCRIPTS.due(6, "there are 6 cases and an answer", BENCH + """
+                6 x addCase 0 # 1
+                answer 0 0 1 0
+                addCase 0 0 1 throws IllegalStateException
+                """);
+        SCRIPTS.due(6, "no such exercise comes ahead of an argument out of range", BENCH + """
+                addCase 1 100 1 throws IndexOutOfBoundsException
+                addCase -1 0 0 throws IndexOutOfBoundsException
+                """);
+        SCRIPTS.due(6, "an argument out of range comes ahead of 6 cases and of an answer", BENCH + """
+                6 x addCase 0 # 1
+                addCase 0 -1 1 throws IllegalArgumentException
+                addCase 0 0 10 throws IllegalArgumentException
+                addExercise 0 1 0 0
+                addCase 1 0 1
+                answer 0 1 0 0
+                addCase 1 100 1 throws IllegalArgumentException
+                addCase 1 0 0 throws IllegalArgumentException
+                """);
     }
 
     private static void versionOf() {
-        CourseForge x = new CourseForge();
-        x.addLesson(0, 0);
-        x.addLesson(0, 0);
-        x.addExercise(0, 1, 0, 0);
-        x.addExercise(0, 1, 0, 0);
-        x.addExercise(1, 1, 0, 0);
-        CHECKS.due("versionOf before a mend", x.versionOf(0), 0);
-        x.mend(0, 2, 0);
-        CHECKS.due("versionOf after a mend", x.versionOf(0), 1);
-        x.mend(1, 1, 1);
-        x.mend(0, 1, 0);
-        CHECKS.throwsState(x, "a mend to the same rule", () -> x.mend(0, 1, 0));
-        CHECKS.due("versionOf after mends of two exercises", x.versionOf(0), 3);
-        CHECKS.due("versionOf of another lesson", x.versionOf(1), 0);
-        CHECKS.throwsIndex(x, "versionOf(-1)", () -> x.versionOf(-1));
-        CHECKS.throwsIndex(x, "versionOf(2)", () -> x.versionOf(2));
+        SCRIPTS.due(7, "there is no such lesson", """
+                versionOf 0 throws IndexOutOfBoundsException
+                2 x addLesson 0 0
+                versionOf -1 throws IndexOutOfBoundsException
+                versionOf least throws IndexOutOfBoundsException
+                versionOf 0 = 0
+                versionOf 1 = 0
+                versionOf 2 throws IndexOutOfBoundsException
+                versionOf most throws IndexOutOfBoundsException
+                """);
+        SCRIPTS.due(7, "it is 0 without a mend, and counts each mend of each exercise of the lesson", BENCH + """
+                addLesson 0 0
+                addExercise 0 1 0 0
+                addExercise 1 1 0 0
+                versionOf 0 = 0
+                mend 0 2 0
+                versionOf 0 = 1
+                mend 1 1 1
+                mend 0 1 0
+                versionOf 0 = 3
+                versionOf 1 = 0
+                mend 2 0 0
+                versionOf 0 = 3
+                versionOf 1 = 1
+                """);
+        SCRIPTS.due(7, "a mend that is refused does not count", BENCH + """
+                mend 0 2 0
+                mend 0 2 0 throws IllegalStateException
+                mend 0 10 0 throws IllegalArgumentException
+                versionOf 0 = 1
+                """);
     }
 
     private static void openLessons() {
-        CourseForge x = new CourseForge();
-        x.addCohort(5, 5);
-        x.addStudent(0);
-        CHECKS.due("openLessons without lessons", x.openLessons(0), 0);
-        x.addLesson(0, 1);
-        x.addLesson(1, 0);
-        x.addLesson(2, 0);
-        x.addLesson(3, 0);
-        CHECKS.due("openLessons without exercises, before the cohort's days", x.openLessons(0), 4);
-        x.addExercise(0, 1, 0, 0);
-        x.addCase(0, 3, 1);
-        x.addCase(0, 0, 1);
-        CHECKS.due("openLessons, two need what has no answer", x.openLessons(0), 2);
-        x.pass(5);
-        x.answer(0, 0, 0, 3);
-        CHECKS.due("openLessons at mastery 50", x.openLessons(0), 4);
-        x.addExercise(1, 1, 0, 0);
-        CHECKS.due("openLessons, two need another", x.openLessons(0), 2);
-        x.addCase(1, 1, 1);
-        x.answer(0, 1, 1, 0);
-        CHECKS.due("openLessons with both", x.openLessons(0), 4);
-        x.pass(1);
-        CHECKS.due("openLessons at mastery 49", x.openLessons(0), 2);
-        CHECKS.throwsIndex(x, "openLessons(-1)", () -> x.openLessons(-1));
-        CHECKS.throwsIndex(x, "openLessons(1)", () -> x.openLessons(1));
+        SCRIPTS.due(8, "there is no such student", """
+                openLessons 0 throws IndexOutOfBoundsException
+                addCohort 0 9
+                2 x addStudent 0
+                openLessons -1 throws IndexOutOfBoundsException
+                openLessons least throws IndexOutOfBoundsException
+                openLessons 0 = 0
+                openLessons 1 = 0
+                openLessons 2 throws IndexOutOfBoundsException
+                openLessons most throws IndexOutOfBoundsException
+                """);
+        SCRIPTS.due(8, "0 of no lessons, 8 of 8 lessons, on days that are not the cohort's", """
+                addCohort 5 5
+                addStudent 0
+                openLessons 0 = 0
+                addLesson 0 0
+                openLessons 0 = 1
+                7 x addLesson 1 0
+                openLessons 0 = 8
+                """);
+        SCRIPTS.due(8, "a lesson is open at a mastery of 50, not of 49", BENCH + """
+                addLesson 0 1
+                addLesson 2 0
+                addExercise 1 1 0 0
+                addCase 1 0 1
+                addCase 1 3 1
+                openLessons 0 = 2
+                answer 0 1 0 0
+                mastery 0 1 = 50
+                openLessons 0 = 3
+                pass 1
+                mastery 0 1 = 49
+                openLessons 0 = 2
+                """);
+        SCRIPTS.due(8, "a lesson is open by the mastery in each lesson that it needs", BENCH + """
+                addLesson 0 0
+                addExercise 1 1 0 0
+                2 x addCase # 1 1
+                addLesson 3 0
+                openLessons 0 = 2
+                answer 0 1 1 0
+                openLessons 0 = 2
+                answer 0 0 1 0
+                openLessons 0 = 3
+                mend 1 2 0
+                openLessons 0 = 2
+                """);
+        SCRIPTS.due(8, "what is needed for a lesson that is needed does not count", BENCH + """
+                addLesson 1 0
+                addLesson 2 0
+                openLessons 0 = 2
+                """);
+        SCRIPTS.due(8, "the mastery of another student does not count", BENCH + """
+                addStudent 0
+                addCase 0 1 1
+                addLesson 1 0
+                answer 1 0 1 0
+                openLessons 0 = 1
+                openLessons 1 = 2
+                """);
     }
 }
